@@ -25,7 +25,8 @@ public final class AnyCallsTest {
             try {
                 call += any(x, which, random);
             } catch (ArrayIndexOutOfBoundsException e) {
-                boolean named = which == 6 || which == 16;
+                // The machine's own text tells an index that was not looked at before its use.
+                boolean named = (which == 6 || which == 16) && !e.getMessage().startsWith("Index ");
                 thrown += named ? 0 : 1;
             } catch (RuntimeException e) {
                 thrown++;

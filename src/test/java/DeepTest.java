@@ -11,6 +11,7 @@ public final class DeepTest {
         depths();
         noContainers();
         withoutBytes();
+        fortyFiles();
         CHECK.end();
     }
 
@@ -150,5 +151,18 @@ public final class DeepTest {
         CHECK.due("its DEEP FORMAT is what counts outside", x.deep(outer), 1);
         x.container(1, 13, 14);
         CHECK.due("and is wanted", x.deep(outer), 14);
+    }
+
+    private static void fortyFiles() {
+        FormatRows x = nineFormats();
+        int first = Check.file(x, 1);
+        x.container(1, 0, 15);
+        CHECK.due("a file that is not there is no member", x.deep(first), 1);
+        for (int i = 1; i < 40; i++) {
+            CHECK.due("file " + i, x.file(), i);
+            CHECK.due("no member with " + i + " files more", x.deep(first), 1);
+        }
+        x.member(39, 0);
+        CHECK.due("the last file is a member", x.deep(first), 15);
     }
 }

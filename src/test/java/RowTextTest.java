@@ -16,6 +16,7 @@ public final class RowTextTest {
         everySign();
         lowestEightBits();
         signsBeyondSixty();
+        nothingIsLeftOfTextsBefore();
         sixtyRows();
         patterns();
         CHECK.end();
@@ -183,6 +184,16 @@ public final class RowTextTest {
         }
         CHECK.due("row of 200 signs", x.row(), -10);
         CHECK.due("a row after it", Check.row(x, "1 1 @0 00"), 0);
+    }
+
+    private static void nothingIsLeftOfTextsBefore() {
+        String text = "1 1 @0 0000";
+        for (int length = 0; length < text.length(); length++) {
+            FormatRows x = new FormatRows();
+            Check.row(x, text);
+            int want = length == 9 ? 1 : -10 - length;
+            CHECK.due("row of " + length + " signs after a longer one", Check.row(x, text.substring(0, length)), want);
+        }
     }
 
     /** 60 rows take more than the 512 calls that are promised; the limit must hold all the same. */
