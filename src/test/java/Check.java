@@ -5,12 +5,18 @@ final class Check {
 
     private int seen = 0;
     private int wrong = 0;
+    private String about = "";
+
+    /** The words of the document that the answers from here on are due by. */
+    void about(String words) {
+        about = "[" + words + "] ";
+    }
 
     void due(String call, long got, long want) {
         seen++;
         if (got != want) {
             wrong++;
-            System.out.println(call + " answered " + got + ", due is " + want);
+            System.out.println(about + call + " answered " + got + ", due is " + want);
         }
     }
 
@@ -39,6 +45,13 @@ final class Check {
             x.octet(file, b);
         }
         return file;
+    }
+
+    /** So many files more, without bytes. */
+    static void files(FormatRows x, int many) {
+        for (int i = 0; i < many; i++) {
+            x.file();
+        }
     }
 
     static int found(FormatRows x, int i) {

@@ -12,6 +12,7 @@ public final class NewObjectTest {
     public static void main(String[] args) {
         constants();
         face();
+        namedExceptions();
         nothingIsThere();
         objectsShareNothing();
         CHECK.end();
@@ -50,6 +51,17 @@ public final class NewObjectTest {
         CHECK.due("the face " + seen, seen.equals(want) ? 1 : 0, 1);
         int modifiers = FormatRows.class.getModifiers();
         CHECK.due("public final", Modifier.isPublic(modifiers) && Modifier.isFinal(modifiers) ? 1 : 0, 1);
+    }
+
+    private static void namedExceptions() {
+        for (Method m : FormatRows.class.getDeclaredMethods()) {
+            if (Modifier.isPublic(m.getModifiers())) {
+                boolean named = m.getName().equals("found") || m.getName().equals("pattern");
+                String want = named ? "[" + ArrayIndexOutOfBoundsException.class + "]" : "[]";
+                String seen = Arrays.toString(m.getExceptionTypes());
+                CHECK.due(m.getName() + " names " + seen, seen.equals(want) ? 1 : 0, 1);
+            }
+        }
     }
 
     private static void nothingIsThere() {

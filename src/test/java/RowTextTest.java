@@ -1,12 +1,7 @@
-import java.util.regex.Matcher;
-import java.util.regex.Pattern;
-
 /** Promises 2, 3 and 18: sign, row, pattern. */
 public final class RowTextTest {
     private static final Check CHECK = new Check();
     private static final String TWELVE = "000102030405060708090a0b";
-    private static final Pattern ROW =
-        Pattern.compile("([0-9]|[0-2][0-9]) [0-9] [@-][0-9]{1,3} ([0-9a-f]{2}|\\?\\?){1,12}");
 
     public static void main(String[] args) {
         rightRows();
@@ -131,33 +126,8 @@ public final class RowTextTest {
     }
 
     private static void asTheGrammarSays(String text) {
-        int place = wrongPlace(text);
+        int place = Model.wrongPlace(text);
         CHECK.due("row of '" + text + "'", Check.row(new FormatRows(), text), place < 0 ? 0 : -10 - place);
-    }
-
-    /** The place where a text is WRONG, or -1, by an expression for whole rows. */
-    private static int wrongPlace(String text) {
-        for (int place = 0; place < text.length(); place++) {
-            Matcher start = ROW.matcher(text.substring(0, place + 1));
-            if (!start.matches() && !start.hitEnd()) {
-                return firstOfNumber(text, place);
-            }
-        }
-        return ROW.matcher(text).matches() ? -1 : text.length();
-    }
-
-    /** A number too great or too long is WRONG at its first sign; a pattern has no numbers. */
-    private static int firstOfNumber(String text, int place) {
-        boolean inPattern = text.substring(0, place).replaceAll("[^ ]", "").length() == 3;
-        int first = place;
-        while (!inPattern && isDigit(text, place) && first > 0 && isDigit(text, first - 1)) {
-            first--;
-        }
-        return first;
-    }
-
-    private static boolean isDigit(String text, int place) {
-        return text.charAt(place) >= '0' && text.charAt(place) <= '9';
     }
 
     private static void lowestEightBits() {
